@@ -123,7 +123,7 @@ public final class BannedRows {
     }
 
     public int undo() {
-        if (pastSize < 1) {
+        if (pastSize < 1 || pastSize > PAST_ROOM) {
             return STATE;
         }
         pastSize--;
@@ -596,7 +596,7 @@ public final class BannedRows {
             setEnds(ban);
             setGood(ban.tagCount());
             setTags(ban.tagCount());
-            begin = good == 0 ? NONE : Integer.numberOfTrailingZeros(good);
+            begin = lowestGood();
             window = narrowestWindow();
         }
 
@@ -709,6 +709,15 @@ public final class BannedRows {
                 }
                 good = left;
             }
+        }
+
+        private int lowestGood() {
+            for (int state = 0; state < states; state++) {
+                if (has(good, state)) {
+                    return state;
+                }
+            }
+            return NONE;
         }
 
         private int arcsToGood(int state) {

@@ -565,6 +565,8 @@ public final class PromisesTest {
         C.due("none is GOOD", View.told("c1;p3;q4;").ask(), NONE);
         // All have 00 for TAG 0; for TAG 1 the STATES 0 and 2 have 01, STATE 1 has 10.
         C.due("a higher TAG tells more", View.told("b101;p1;q2;").ask(), 1);
+        // For TAG 0 STATE 0 has 01, STATE 1 has 10: two are enough to ask.
+        C.due("two are THERE", View.told("r0 1;").ask(), 0);
     }
 
     private static void promise19And20() {

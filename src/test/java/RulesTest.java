@@ -33,8 +33,7 @@ public final class RulesTest {
     }
 
     private static void library(Check check, String code) {
-        List<String> allowed = List.of("System.arraycopy", "Math.max", "Math.min",
-                "Integer.bitCount", "Integer.numberOfTrailingZeros");
+        List<String> allowed = List.of("System.arraycopy", "Math.max", "Math.min", "Integer.bitCount");
         Matcher calls = Pattern.compile("\\b([A-Z]\\w*[a-z]\\w*)\\.(\\w+)").matcher(code);
         while (calls.find()) {
             check.holds("of the library: " + calls.group(), allowed.contains(calls.group()));
