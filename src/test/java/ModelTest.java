@@ -4,6 +4,7 @@ import java.util.Random;
 
 /** The class against the Model: every ban at every rate, and long runs of calls by a fixed seed. */
 public final class ModelTest {
+    private static final int CALLS = 512;
     private static final Check CHECK = new Check("ModelTest");
 
     public static void main(String[] args) {
@@ -39,32 +40,54 @@ public final class ModelTest {
         return all;
     }
 
-    private static void everyAnswer(String text) {
-        BannedRows x = new BannedRows();
-        Model y = new Model();
-        for (char letter : text.toCharArray()) {
-            x.type(letter);
-            y.type(letter);
+    /** An object and a Model that were told the same. */
+    private record Twins(BannedRows x, Model y) {
+        static Twins told(String text) {
+            Twins both = new Twins(new BannedRows(), new Model());
+            for (char letter : text.toCharArray()) {
+                both.x.type(letter);
+                both.y.type(letter);
+            }
+            same(text + " tells", both.x.tells(), both.y.tells());
+            return both;
         }
-        same(text + " tells", x.tells(), y.tells());
+    }
+
+    private static void everyAnswer(String text) {
+        everyCount(text, Twins.told(text));
+        for (int s = -1; s <= 7; s++) {
+            everyOfState(text, s, Twins.told(text));
+        }
+        everySeen(text, Twins.told(text));
+    }
+
+    private static void everyCount(String text, Twins both) {
         for (int what = -1; what <= 13; what++) {
-            same(text + " count " + what, x.count(what), y.count(what));
+            same(text + " count " + what, both.x.count(what), both.y.count(what));
         }
         for (int n = -1; n <= 21; n++) {
-            same(text + " rows " + n, x.rows(n), y.rows(n));
+            same(text + " rows " + n, both.x.rows(n), both.y.rows(n));
         }
-        for (int s = -1; s <= 7; s++) {
-            for (int what = -1; what <= 2; what++) {
-                same(text + " step " + s + " " + what, x.step(s, what), y.step(s, what));
-                same(text + " state " + s + " " + what, x.state(s, what), y.state(s, what));
-                for (int w = -1; w <= 16; w++) {
-                    same(text + " arc " + s + " " + w + " " + what, x.arc(s, w, what), y.arc(s, w, what));
-                }
-                for (int l = 0; l <= 10; l++) {
-                    same(text + " weight " + s + " " + l + " " + what, x.weight(s, l, what), y.weight(s, l, what));
-                }
+    }
+
+    private static void everyOfState(String text, int s, Twins both) {
+        BannedRows x = both.x;
+        Model y = both.y;
+        for (int what = -1; what <= 2; what++) {
+            same(text + " step " + s + " " + what, x.step(s, what), y.step(s, what));
+            same(text + " state " + s + " " + what, x.state(s, what), y.state(s, what));
+            for (int w = -1; w <= 16; w++) {
+                same(text + " arc " + s + " " + w + " " + what, x.arc(s, w, what), y.arc(s, w, what));
+            }
+            for (int l = 0; l <= 10; l++) {
+                same(text + " weight " + s + " " + l + " " + what, x.weight(s, l, what), y.weight(s, l, what));
             }
         }
+    }
+
+    private static void everySeen(String text, Twins both) {
+        BannedRows x = both.x;
+        Model y = both.y;
         for (int w = -1; w <= 16; w++) {
             same(text + " sees " + w, x.sees(w), y.sees(w));
             same(text + " which 0", x.which(0), y.which(0));
@@ -74,36 +97,50 @@ public final class ModelTest {
         }
     }
 
+    /** As many calls as an object is promised to answer, the last one too. */
     private static void longRun(int seed, List<String> bans) {
         Random random = new Random(seed);
         BannedRows x = new BannedRows();
         Model y = new Model();
         StringBuilder told = new StringBuilder("run " + seed);
         int calls = 0;
-        while (calls < 480 && !CHECK.hasWrong()) {
-            if (random.nextInt(12) == 0) {
-                String text = random.nextInt(3) == 0 ? spoilt(random, bans) : sound(random, bans);
+        while (calls < CALLS && !CHECK.hasWrong()) {
+            boolean isTold = random.nextInt(12) == 0;
+            String text = random.nextInt(3) == 0 ? spoilt(random, bans) : sound(random, bans);
+            if (isTold && calls + text.length() + 2 <= CALLS) {
                 for (char letter : text.toCharArray()) {
                     same(told + " type", x.type(letter), y.type(letter));
-                    calls++;
                 }
                 told.append(" \"").append(text).append('"');
                 same(told + " tells", x.tells(), y.tells());
+                calls += text.length() + 1;
                 if (random.nextInt(2) == 0) {
                     told.append(" clear");
                     same(told.toString(), x.clear(), y.clear());
+                    calls++;
                 }
-                calls += 2;
             } else {
                 int kind = random.nextInt(20);
-                int a = number(random, kind == 4 ? y.count(8) * y.count(3) : kind == 3 ? 1 << y.count(2) : 8);
+                int a = number(random, boundOf(kind, y));
                 int b = number(random, 16);
                 int c = number(random, 2);
-                told.append(' ').append(kind).append('(').append(a).append(' ').append(b).append(' ').append(c).append(')');
+                told.append(" " + kind + "(" + a + " " + b + " " + c + ")");
                 both(told.toString(), kind, new int[] {a, b, c}, x, y);
                 calls++;
             }
         }
+    }
+
+    /** Below which number the first argument of a call is mostly as told. */
+    private static int boundOf(int kind, Model y) {
+        return switch (kind) {
+            case 1, 2, 3 -> 1 << y.count(2);
+            case 4 -> y.count(8) * y.count(3);
+            case 6, 7, 8, 9 -> y.count(0);
+            case 11, 12 -> y.count(8);
+            case 14 -> 1 << y.count(3);
+            default -> 8;
+        };
     }
 
     /** Mostly 0 to below a bound, at times a little or far outside. */

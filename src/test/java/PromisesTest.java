@@ -54,17 +54,17 @@ public final class PromisesTest {
 
     private static void promise2() {
         BannedRows x = new BannedRows();
-        C.refused(x, "type(-1)", () -> x.type(-1), BAD);
-        C.refused(x, "type(256)", () -> x.type(256), BAD);
-        C.refused(x, "type(LOW)", () -> x.type(LOW), BAD);
-        C.refused(x, "type(HIGH)", () -> x.type(HIGH), BAD);
+        C.due("type(-1)", x.type(-1), BAD);
+        C.due("type(256)", x.type(256), BAD);
+        C.due("type(LOW)", x.type(LOW), BAD);
+        C.due("type(HIGH)", x.type(HIGH), BAD);
         C.due("type(0)", x.type(0), 1);
         C.due("type(255)", x.type(255), 2);
         for (int i = 3; i <= 60; i++) {
             C.due("type to 60", x.type(' '), i);
         }
-        C.refused(x, "type at 60", () -> x.type(' '), FULL);
-        C.refused(x, "type(256) at 60", () -> x.type(256), BAD);
+        C.due("type at 60", x.type(' '), FULL);
+        C.due("type(256) at 60", x.type(256), BAD);
         C.due("count(11)", x.count(11), 60);
     }
 
@@ -113,7 +113,7 @@ public final class PromisesTest {
         x.sees(1);
         x.keep(1);
         View.type(x, text);
-        C.refused(x, "\"" + text + "\" tells", x::tells, -10 - place);
+        C.due("\"" + text + "\" tells", x.tells(), -10 - place);
         C.due("\"" + text + "\": images stay", x.back(1), 2);
     }
 
@@ -200,9 +200,9 @@ public final class PromisesTest {
 
     private static void promise5() {
         BannedRows x = new BannedRows();
-        C.refused(x, "sends(-1)", () -> x.sends(-1), BAD);
-        C.refused(x, "sends(2)", () -> x.sends(2), BAD);
-        C.refused(x, "sends(LOW)", () -> x.sends(LOW), BAD);
+        C.due("sends(-1)", x.sends(-1), BAD);
+        C.due("sends(2)", x.sends(2), BAD);
+        C.due("sends(LOW)", x.sends(LOW), BAD);
         C.due("sends(0)", x.sends(0), 0);
         C.due("SEND is 2", x.count(6), 2);
         C.due("sends(1)", x.sends(1), 2);
@@ -211,11 +211,11 @@ public final class PromisesTest {
             x.sends(i & 1);
             C.due("WORDS", x.count(8), i + 1);
         }
-        C.refused(x, "sends() at 24", () -> x.sends(0), FULL);
-        C.refused(x, "sends(2) at 24", () -> x.sends(2), BAD);
+        C.due("sends() at 24", x.sends(0), FULL);
+        C.due("sends(2) at 24", x.sends(2), BAD);
         BannedRows y = View.told("c1;p3;q4;");
-        C.refused(y, "sends(7), none GOOD", () -> y.sends(7), STATE);
-        C.refused(y, "sends(8), none GOOD", () -> y.sends(8), BAD);
+        C.due("sends(7), none GOOD", y.sends(7), STATE);
+        C.due("sends(8), none GOOD", y.sends(8), BAD);
         BannedRows z = View.told("b101;q3;p2;");
         C.due("b101 sends(3)", z.sends(3), 3);
         C.due("b101 sends(4)", z.sends(4), BAD);
@@ -223,13 +223,13 @@ public final class PromisesTest {
 
     private static void promise6() {
         BannedRows x = new BannedRows();
-        C.refused(x, "flips(0) of none", () -> x.flips(0), BAD);
+        C.due("flips(0) of none", x.flips(0), BAD);
         x.sends(0);
         x.sends(1);
-        C.refused(x, "flips(-1)", () -> x.flips(-1), BAD);
-        C.refused(x, "flips(4)", () -> x.flips(4), BAD);
-        C.refused(x, "flips(LOW)", () -> x.flips(LOW), BAD);
-        C.refused(x, "flips(HIGH)", () -> x.flips(HIGH), BAD);
+        C.due("flips(-1)", x.flips(-1), BAD);
+        C.due("flips(4)", x.flips(4), BAD);
+        C.due("flips(LOW)", x.flips(LOW), BAD);
+        C.due("flips(HIGH)", x.flips(HIGH), BAD);
         C.due("flips(0)", x.flips(0), 1);
         C.due("its first bit is the highest", x.word(0, 0), 2);
         C.due("flips(3)", x.flips(3), 1);
@@ -251,7 +251,7 @@ public final class PromisesTest {
 
     private static void promise7() {
         BannedRows x = new BannedRows();
-        C.refused(x, "undo() of none", x::undo, STATE);
+        C.due("undo() of none", x.undo(), STATE);
         x.sends(0);
         String before = View.of(x);
         x.flips(1);
@@ -267,7 +267,7 @@ public final class PromisesTest {
         C.due("undo() of the first", x.undo(), 0);
         C.due("the line is empty", x.count(8), 0);
         C.due("SEND is BEGIN", x.count(6), 0);
-        C.refused(x, "undo() no more", x::undo, STATE);
+        C.due("undo() no more", x.undo(), STATE);
     }
 
     private static void promise7Known() {
@@ -314,8 +314,8 @@ public final class PromisesTest {
         steps("b01011", View.told("b01011;"), 1, 0, 1, 2, 3, 0, 1, 4, 3, NONE);
         int[] off = {-1, 4, LOW, HIGH};
         for (int n : off) {
-            C.refused(x, "step(" + n + ", 0)", () -> x.step(n, 0), BAD);
-            C.refused(x, "step(0, " + n + ")", () -> x.step(0, n), BAD);
+            C.due("step(" + n + ", 0)", x.step(n, 0), BAD);
+            C.due("step(0, " + n + ")", x.step(0, n), BAD);
         }
         C.due("step(0, 2)", x.step(0, 2), BAD);
         C.due("step(2, 0) of two STATES", y.step(2, 0), BAD);
@@ -325,8 +325,7 @@ public final class PromisesTest {
     private static void steps(String ban, BannedRows x, int... want) {
         C.due(ban + ": STATES", x.count(0), want.length / 2);
         for (int i = 0; i < want.length; i++) {
-            int at = i;
-            C.pure(x, ban + ": step(" + i / 2 + ", " + i % 2 + ")", () -> x.step(at / 2, at % 2), want[i]);
+            C.due(ban + ": step(" + i / 2 + ", " + i % 2 + ")", x.step(i / 2, i % 2), want[i]);
         }
     }
 
@@ -335,9 +334,8 @@ public final class PromisesTest {
         int[] ends = {2, 0, NONE, NONE, 3, 0, 1, NONE, NONE, 0, 1, NONE, NONE, NONE, 1, NONE};
         int[] tags = {0, 1, NONE, NONE, NONE, 0, 1, NONE, NONE, 0, 1, NONE, NONE, NONE, NONE, NONE};
         for (int i = 0; i < 16; i++) {
-            int at = i;
-            C.pure(x, "arc(" + i / 4 + ", " + i % 4 + ", 0)", () -> x.arc(at / 4, at % 4, 0), ends[i]);
-            C.pure(x, "arc(" + i / 4 + ", " + i % 4 + ", 1)", () -> x.arc(at / 4, at % 4, 1), tags[i]);
+            C.due("arc(" + i / 4 + ", " + i % 4 + ", 0)", x.arc(i / 4, i % 4, 0), ends[i]);
+            C.due("arc(" + i / 4 + ", " + i % 4 + ", 1)", x.arc(i / 4, i % 4, 1), tags[i]);
         }
         int[] off = {-1, 4, LOW, HIGH};
         for (int n : off) {
@@ -359,9 +357,8 @@ public final class PromisesTest {
         BannedRows x = new BannedRows();
         int[] arcs = {2, 3, 2, 1};
         for (int s = 0; s < 4; s++) {
-            int at = s;
-            C.pure(x, "state(" + s + ", 0)", () -> x.state(at, 0), arcs[s]);
-            C.pure(x, "state(" + s + ", 1)", () -> x.state(at, 1), s < 3 ? 1 : 0);
+            C.due("state(" + s + ", 0)", x.state(s, 0), arcs[s]);
+            C.due("state(" + s + ", 1)", x.state(s, 1), s < 3 ? 1 : 0);
         }
         int[] off = {-1, 4, LOW, HIGH};
         for (int n : off) {
@@ -380,14 +377,14 @@ public final class PromisesTest {
 
     private static void promise11() {
         BannedRows x = new BannedRows();
-        C.pure(x, "weight(0, 1, 0)", () -> x.weight(0, 1, 0), 1);
+        C.due("weight(0, 1, 0)", x.weight(0, 1, 0), 1);
         C.due("weight(3, 1, 0)", x.weight(3, 1, 0), 0);
         C.due("weight(0, 1, 1)", x.weight(0, 1, 1), 333);
         C.due("weight(3, 1, 1)", x.weight(3, 1, 1), 0);
         C.due("weight(0, 9, 0)", x.weight(0, 9, 0), 9);
         C.due("weight(3, 9, 0)", x.weight(3, 9, 0), 4);
         C.due("weight(0, 9, 1)", x.weight(0, 9, 1), 290);
-        C.pure(x, "weight(3, 9, 1)", () -> x.weight(3, 9, 1), 129);
+        C.due("weight(3, 9, 1)", x.weight(3, 9, 1), 129);
         int[] off = {-1, 4, LOW, HIGH};
         for (int n : off) {
             C.due("weight(n, 1, 0)", x.weight(n, 1, 0), BAD);
@@ -410,8 +407,7 @@ public final class PromisesTest {
         BannedRows x = new BannedRows();
         int[] want = {1, 1, 2, 3, 4, 6};
         for (int n = 0; n < want.length; n++) {
-            int at = n;
-            C.pure(x, "rows(" + n + ")", () -> x.rows(at), want[n]);
+            C.due("rows(" + n + ")", x.rows(n), want[n]);
         }
         C.due("rows(20)", x.rows(20), 1873);
         C.due("rows(21)", x.rows(21), BAD);
@@ -426,18 +422,17 @@ public final class PromisesTest {
 
     private static void promise13() {
         BannedRows x = new BannedRows();
-        C.refused(x, "word(0, 0) of none", () -> x.word(0, 0), BAD);
+        C.due("word(0, 0) of none", x.word(0, 0), BAD);
         int[] tags = {0, 1, 1, 0};
         int[] words = {0, 2, 2, 1};
         for (int i = 0; i < 4; i++) {
             x.sends(tags[i]);
         }
         for (int i = 0; i < 4; i++) {
-            int at = i;
-            C.pure(x, "word(i, 0)", () -> x.word(at, 0), words[i]);
-            C.pure(x, "word(i, 1)", () -> x.word(at, 1), tags[i]);
-            C.pure(x, "word(i, 2)", () -> x.word(at, 2), tags[i]);
-            C.pure(x, "word(i, 3): there is no WINDOW", () -> x.word(at, 3), NONE);
+            C.due("word(i, 0)", x.word(i, 0), words[i]);
+            C.due("word(i, 1)", x.word(i, 1), tags[i]);
+            C.due("word(i, 2)", x.word(i, 2), tags[i]);
+            C.due("word(i, 3): there is no WINDOW", x.word(i, 3), NONE);
         }
         int[] off = {-1, 4, LOW, HIGH};
         for (int n : off) {
@@ -476,8 +471,8 @@ public final class PromisesTest {
 
     private static void promise14() {
         BannedRows x = new BannedRows();
-        C.pure(x, "wrong(0) of none", () -> x.wrong(0), 0);
-        C.pure(x, "wrong(1) of none", () -> x.wrong(1), 0);
+        C.due("wrong(0) of none", x.wrong(0), 0);
+        C.due("wrong(1) of none", x.wrong(1), 0);
         C.due("wrong(-1)", x.wrong(-1), BAD);
         C.due("wrong(2)", x.wrong(2), BAD);
         C.due("wrong(LOW)", x.wrong(LOW), BAD);
@@ -486,8 +481,8 @@ public final class PromisesTest {
         x.sends(1);
         x.sends(1);
         x.sends(0);
-        C.pure(x, "wrong(0)", () -> x.wrong(0), 0);
-        C.pure(x, "wrong(1): there is no WINDOW", () -> x.wrong(1), 4);
+        C.due("wrong(0)", x.wrong(0), 0);
+        C.due("wrong(1): there is no WINDOW", x.wrong(1), 4);
         x.flips(1);
         C.due("all four by STATES", x.wrong(0), 4);
         BannedRows y = View.told("b101;q3;p2;");
@@ -502,14 +497,14 @@ public final class PromisesTest {
         BannedRows x = new BannedRows();
         int[] off = {-1, 4, LOW, HIGH};
         for (int n : off) {
-            C.refused(x, "sees(n)", () -> x.sees(n), BAD);
+            C.due("sees(n)", x.sees(n), BAD);
         }
         for (int i = 1; i <= 6; i++) {
             C.due("sees()", x.sees(i & 3), i);
             C.due("count(10)", x.count(10), i);
         }
-        C.refused(x, "sees() at 6", () -> x.sees(0), FULL);
-        C.refused(x, "sees(4) at 6", () -> x.sees(4), BAD);
+        C.due("sees() at 6", x.sees(0), FULL);
+        C.due("sees(4) at 6", x.sees(4), BAD);
         C.due("nothing to undo", x.count(12), 0);
         BannedRows y = View.told("c1;p3;q4;");
         C.due("sees(15), none GOOD", y.sees(15), 1);
@@ -531,15 +526,15 @@ public final class PromisesTest {
 
     private static void promise17() {
         BannedRows x = new BannedRows();
-        C.pure(x, "which(0), nothing SEEN", () -> x.which(0), 7);
-        C.pure(x, "which(1), nothing SEEN", () -> x.which(1), 7);
+        C.due("which(0), nothing SEEN", x.which(0), 7);
+        C.due("which(1), nothing SEEN", x.which(1), 7);
         C.due("which(-1)", x.which(-1), BAD);
         C.due("which(2)", x.which(2), BAD);
         C.due("which(LOW)", x.which(LOW), BAD);
         C.due("which(HIGH)", x.which(HIGH), BAD);
         x.sees(2);
-        C.pure(x, "10 from 1 and 2", () -> x.which(0), 6);
-        C.pure(x, "to 1", () -> x.which(1), 2);
+        C.due("10 from 1 and 2", x.which(0), 6);
+        C.due("to 1", x.which(1), 2);
         x.forget();
         x.sees(0);
         C.due("00 with a TAG from 0 alone", x.which(0), 1);
@@ -557,11 +552,11 @@ public final class PromisesTest {
 
     private static void promise18() {
         BannedRows x = new BannedRows();
-        C.pure(x, "two and two: the least TAG", x::ask, 0);
+        C.due("two and two: the least TAG", x.ask(), 0);
         x.sees(2);
-        C.pure(x, "one is THERE", x::ask, NONE);
+        C.due("one is THERE", x.ask(), NONE);
         x.sees(3);
-        C.pure(x, "none is THERE", x::ask, NONE);
+        C.due("none is THERE", x.ask(), NONE);
         C.due("none is GOOD", View.told("c1;p3;q4;").ask(), NONE);
         // All have 00 for TAG 0; for TAG 1 the STATES 0 and 2 have 01, STATE 1 has 10.
         C.due("a higher TAG tells more", View.told("b101;p1;q2;").ask(), 1);
@@ -573,16 +568,16 @@ public final class PromisesTest {
         BannedRows x = new BannedRows();
         int[] off = {-1, 2, LOW, HIGH};
         for (int n : off) {
-            C.refused(x, "keep(n)", () -> x.keep(n), BAD);
-            C.refused(x, "back(n)", () -> x.back(n), BAD);
+            C.due("keep(n)", x.keep(n), BAD);
+            C.due("back(n)", x.back(n), BAD);
         }
         x.sends(0);
-        C.refused(x, "back(0), none kept", () -> x.back(0), STATE);
-        C.pure(x, "keep(0)", () -> x.keep(0), 1);
-        C.refused(x, "back(1), none kept", () -> x.back(1), STATE);
+        C.due("back(0), none kept", x.back(0), STATE);
+        C.due("keep(0)", x.keep(0), 1);
+        C.due("back(1), none kept", x.back(1), STATE);
         x.flips(0);
         x.sends(1);
-        C.pure(x, "keep(1)", () -> x.keep(1), 2);
+        C.due("keep(1)", x.keep(1), 2);
         x.sends(1);
         C.due("back(0)", x.back(0), 1);
         counts("image 0", x, 4, 0, 1, 2, 7, 0, 2, NONE, 1, 0, 0, 0, 0);
@@ -635,13 +630,10 @@ public final class PromisesTest {
         x.type('c');
         x.type('1');
         counts("c2, used", x, 5, 2, 3, 4, 10, 1, 3, NONE, 3, 2, 1, 2, 6);
-        for (int what = 0; what <= 12; what++) {
-            int at = what;
-            C.pure(x, "count(" + what + ")", () -> x.count(at), x.count(what));
-        }
+        counts("c2, told again", x, 5, 2, 3, 4, 10, 1, 3, NONE, 3, 2, 1, 2, 6);
         int[] off = {-1, 13, LOW, HIGH};
         for (int n : off) {
-            C.refused(x, "count(n)", () -> x.count(n), BAD);
+            C.due("count(n)", x.count(n), BAD);
         }
         counts("none GOOD", View.told("c1;p3;q4;"), 3, 1, 3, 4, 0, NONE, NONE, NONE, 0, 0, 0, 0, 1);
         C.due("WINDOW 0", View.told("b101;q3;p2;").count(7), 0);
