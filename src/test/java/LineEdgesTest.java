@@ -22,6 +22,7 @@ public final class LineEdgesTest {
         undoneNotRefused();
         sixKnown();
         undoneAcrossBans();
+        allWordsBroughtAgain();
         undoneLeavesTheRest();
         undoneAndDoneAnew();
         readByStates();
@@ -359,6 +360,39 @@ public final class LineEdgesTest {
         C.due("sends() goes on", x.sends(0), x.word(3, 0));
     }
 
+    private static void allWordsBroughtAgain() {
+        C.about("THE LINE: WORDS (24 at most; none at first)");
+        BannedRows x = View.told("b101;p2;q3;");
+        for (int i = 0; i < 23; i++) {
+            x.sends(0);
+        }
+        x.sends(3);
+        x.keep(0);
+        C.due("the last bit", x.flips(71), 0);
+        x.undo();
+        C.due("UNDONE: the last WORD", x.word(23, 0), 3);
+        View.type(x, "b101;p2;q3;");
+        x.tells();
+        for (int i = 0; i < 24; i++) {
+            x.sends(1);
+        }
+        View.type(x, "c1;");
+        x.tells();
+        x.undo();
+        C.due("UNDONE: the last WORD", x.word(23, 0), 1);
+        C.due("UNDONE: the last TAG", x.word(23, 1), 1);
+        x.keep(1);
+        for (int i = 0; i < 5; i++) {
+            x.undo();
+        }
+        sends(x, 3, 3, 3, 3, 3);
+        C.due("the last WORD", x.word(23, 1), 3);
+        C.due("back(1)", x.back(1), 24);
+        C.due("the IMAGE: the last WORD", x.word(23, 0), 1);
+        C.due("the IMAGE: the last TAG", x.word(23, 1), 1);
+        C.due("the IMAGE: no bit TURNED", x.count(9), 0);
+    }
+
     private static void undoneLeavesTheRest() {
         C.about("all that 1 and this 2 tell but THE TEXT is as ahead of it");
         BannedRows x = new BannedRows();
@@ -441,6 +475,12 @@ public final class LineEdgesTest {
         C.due("10 leads", x.arc(0, 2, 0), 0);
         words("but has no TAG", x, 2, NONE, 1);
         words("by the WINDOW neither", x, 3, NONE, 1);
+        C.about("else NONE, and the STATE stays");
+        BannedRows y = new BannedRows();
+        sends(y, 0, 1, 0, 1);
+        y.flips(5);
+        C.due("00 leads from 1 to 3", y.arc(1, 0, 0), 3);
+        words("but has no TAG, so that 01 is READ from 1", y, 2, 0, 1, NONE, 0);
     }
 
     private static void readFromBegin() {
